@@ -858,7 +858,8 @@ public final class GateRoad {
         private int letPass(int g, int t, int waiting) {
             int left = waiting;
             for (int i = 0; i < road.rates[g][t] && left != 0; i++) {
-                int c = ranked[g][Integer.numberOfTrailingZeros(left)];
+                // As many bits as stand below the lowest one: its rank.
+                int c = ranked[g][Integer.bitCount((left & -left) - 1)];
                 left &= left - 1;
                 passed[c] = t;
                 inOrder[passCount] = c;

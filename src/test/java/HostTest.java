@@ -154,6 +154,8 @@ public final class HostTest {
         DUE.is("rates: from far", x.rates(0, 2, Integer.MAX_VALUE, 1), -12);
         DUE.is("rates: from far below", x.rates(0, 2, Integer.MIN_VALUE, 10), -12);
         DUE.is("nothing told", x.gateTold(0, 0, 0), 1);
+        x.rate(0, 0, 1, 0);
+        DUE.is("rates: what was 0", x.rates(0, 2, 0, 1), 1);
         DUE.is("rates: from 1", x.rates(0, 2, 1, 1), 1);
     }
 

@@ -53,7 +53,7 @@ public final class LanguageTest {
             calls.add(m.group());
         }
         calls.removeAll(Set.of("System.arraycopy", "Arrays.copyOf", "Arrays.copyOfRange", "Arrays.fill", "Math.max",
-                "Math.min", "Integer.bitCount", "Integer.numberOfTrailingZeros"));
+                "Math.min", "Integer.bitCount"));
         DUE.is("calls of the library that aren't told: " + calls, calls.size(), 0);
         for (int i = 0; i < code.length(); i++) {
             DUE.holds("sign " + i, code.charAt(i) < 128);

@@ -121,6 +121,13 @@ public final class OtherwiseTest {
         Host.text(x, "cost 2<toll;lost 0;");
         x.force(2);
         DUE.is("half is paid, of 6", x.finest(1, 0, 5, 1), 6);
+        Host.text(x, "cost 6<toll;lost 0;");
+        x.force(3);
+        DUE.is("seven", x.finest(0, 0, 5, 1), 7);
+        Host.text(x, "cost 0<toll;lost 0;");
+        x.force(4);
+        DUE.is("one", x.finest(0, 0, 5, 1), 1);
+        x.force(2);
         x.toll(0, 5, 50);
         DUE.is("instead of what it is", x.finest(0, 0, 5, 1), 3);
         DUE.is("the toll stays", x.gateTold(0, 5, 1), 50);
@@ -172,7 +179,10 @@ public final class OtherwiseTest {
         DUE.is("all as the others", x.split(0, 48, 10, 0), 0);
         DUE.is("alike: the least", x.split(0, 10, 10, 0), 0);
         DUE.is("alike: cost", x.split(0, 10, 10, 1), 15);
-        DUE.is("choices stay", x.wayTold(0, 0) + x.wayTold(0, 1) + x.wayTold(0, 2), 30);
+        x.split(0, 5, 6, 0);
+        for (int c = 0; c < 3; c++) {
+            DUE.is("the choice of " + c + " stays", x.wayTold(0, c), 10);
+        }
         DUE.is("split: what -1", x.split(0, 0, 0, -1), GateRoad.NO);
         DUE.is("split: what 2", x.split(0, 0, 0, 2), GateRoad.NO);
         DUE.is("split: a 49", x.split(0, 49, 0, 0), GateRoad.NO);

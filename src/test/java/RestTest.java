@@ -7,6 +7,7 @@ public final class RestTest {
         ties();
         rest();
         other();
+        otherInTheMidst();
         swap();
         DUE.end();
     }
@@ -108,6 +109,32 @@ public final class RestTest {
         DUE.is("other: way -1", x.other(-1, 0, 0), -10000);
     }
 
+    /** A cart with others ahead of it and behind it, in each order. */
+    private static void otherInTheMidst() {
+        GateRoad x = new GateRoad();
+        x.sort(0, 999, 0, 0);
+        x.sort(0, 999, 0, 0);
+        Host.carts(x, 0, 1, 0, 1, 0);
+        x.rate(0, 0, 12, 0);
+        x.rate(0, 14, 15, 2);
+        for (int kind = 0; kind < 6; kind++) {
+            Host.way(x, kind, 5, 7, 48, 5, 8);
+        }
+        Host.text(x, "cost minute;lost 0;");
+        x.force(1);
+        // Cart 2 comes in 5 or 7; they pass in 12, 13, 14, 14, 15.
+        // By when they came: 0 (5), 3 (5), 1 (7), 4 (8). By number: 0, 1, 3, 4. As drawn: 3 (1), 0 (3), 4 (6), 1 (8),
+        // and cart 2 has 13. The last first, 2 spared if it waits more than 4. Less 3 times the sort: 3 (2), 1 (4),
+        // 0 (5), 4 (8).
+        int[][] want = {{13, 14}, {13, 14}, {14, 14}, {15, 15}, {14 - 2, 14 - 2}, {14, 14}};
+        for (int kind = 0; kind < 6; kind++) {
+            DUE.is("kind " + kind + ": in 5", x.other(kind, 2, 5), want[kind][0]);
+            DUE.is("kind " + kind + ": in 7", x.other(kind, 2, 7), want[kind][1]);
+            DUE.is("kind " + kind + ": in 15, behind all", x.other(kind, 2, 15), 15);
+            DUE.is("kind " + kind + ": alone", x.other(kind, 2, 24), 0);
+        }
+    }
+
     private static void swap() {
         GateRoad x = new GateRoad();
         x.sort(5, 50, 0, 0);
@@ -136,7 +163,8 @@ public final class RestTest {
         x.force(1);
         x.set(0, 0, 4);
         x.set(0, 1, 10);
-        DUE.is("alike for one", x.swap(0, 0, 1), 0);
+        DUE.is("alike for the first", x.swap(0, 0, 1), 0);
+        DUE.is("alike for the second", x.swap(0, 1, 0), 0);
         DUE.is("swap: alike carts", x.swap(0, 1, 1), -7);
         DUE.is("swap: cart 3", x.swap(0, 3, 0), -5);
         DUE.is("swap: cart 3 as the second", x.swap(0, 0, 3), -5);

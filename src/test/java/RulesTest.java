@@ -77,6 +77,8 @@ public final class RulesTest {
         stands("cost cost;", 5);
         stands("cost waits;", 5);
         stands("cost wai;", 5);
+        stands("cost waitz;", 5);
+        stands("cost await;", 5);
         stands("cost Wait;", 5);
         stands("cost 1 ando 2;", 7);
         stands("cost 12345;", 5);
@@ -108,6 +110,9 @@ public final class RulesTest {
         stands("cost 1 or or 1;", 10);
         stands("cost 1 not 2;", 7);
         stands("cost 1;lost 99999;", 12);
+        stands("(".repeat(160), 0);
+        stands("cost 1;lost 1" + "*1".repeat(73) + ";", FINE);
+        stands("cost 1;lost 1" + "*1".repeat(73) + "*", 160);
         GateRoad x = new GateRoad();
         DUE.is("an empty tape", x.text(), -100);
         DUE.is("an empty tape is no text", x.count(3), 1);
@@ -202,6 +207,13 @@ public final class RulesTest {
         amount("2=1+1", 1);
         amount("not 0 and 0", 0);
         amount("-1 and 1", 1);
+        for (int inmost = 0; inmost < 2; inmost++) {
+            GateRoad x = late();
+            String e = "0 or 1 and 2=1+1*(".repeat(5) + inmost + ")))))";
+            Host.text(x, "cost " + e + ";lost 0;");
+            x.force(1);
+            DUE.is("as many as can be in the midst of it", x.of(0, 1, 2), inmost);
+        }
         amount("9998+1", 9999);
         amount("9999+1", 9999);
         amount("-9999-1", -9999);

@@ -7,6 +7,8 @@ public final class WaysTest {
         wayTold();
         set();
         orders();
+        sixteen();
+        again();
         tolls();
         spared();
         arrivals();
@@ -49,6 +51,7 @@ public final class WaysTest {
         DUE.is("a ninth that is bad", x.way(0, 0), -2);
         DUE.is("a ninth by no sheet", x.way(0, 2), -11);
         DUE.is("eight ways", x.count(2), 8);
+        DUE.is("no way 8", x.wayTold(8, -1), -5);
         DUE.is("the sheet is copied", x.wayTold(7, 1), 8);
     }
 
@@ -121,6 +124,50 @@ public final class WaysTest {
                 DUE.is("kind " + w + ": passed of that", x.of(w, ORDERS[w][i], 1), 12 + i);
             }
         }
+    }
+
+    /** Sixteen carts come in 0 and pass one a minute from then on, the last ones in 15. */
+    private static void sixteen() {
+        GateRoad x = new GateRoad();
+        x.sort(12, 50, 0, 0);
+        int[] choices = new int[16];
+        for (int c = 0; c < 16; c++) {
+            x.cart(0);
+        }
+        for (int kind = 0; kind < 6; kind++) {
+            Host.way(x, kind, choices);
+        }
+        // (5 c + 3) modulo 17 for c 0 .. 15: 3 8 13 1 6 11 16 4 9 14 2 7 12 0 5 10.
+        int[] drawn = {13, 3, 10, 0, 7, 14, 4, 11, 1, 8, 15, 5, 12, 2, 9, 6};
+        for (int i = 0; i < 16; i++) {
+            for (int kind = 0; kind < 6; kind++) {
+                DUE.is("sixteen, kind " + kind + ", " + i, x.passes(kind, i), kind == 3 ? drawn[i] : i);
+            }
+        }
+        DUE.is("all wait", x.sum(0, 3), 120);
+        DUE.is("half of them at each gate", x.split(0, 0, 24, 0), 8);
+        DUE.is("no toll makes them wait less", x.finest(0, 0, 5, 1), 0);
+    }
+
+    /** What was found of a way ahead of a change is not found behind it. */
+    private static void again() {
+        GateRoad x = new GateRoad();
+        x.sort(12, 50, 0, 0);
+        Host.carts(x, 0, 0);
+        Host.way(x, 0, 0, 0);
+        DUE.is("cart 0 passes", x.of(0, 0, 1), 0);
+        DUE.is("cart 1 behind it", x.of(0, 1, 1), 1);
+        x.set(0, 0, 48);
+        DUE.is("cart 0 stays", x.of(0, 0, 1), -1);
+        DUE.is("cart 0 never came", x.of(0, 0, 0), -1);
+        DUE.is("cart 1 passes alone", x.of(0, 1, 1), 0);
+        x.set(0, 1, 1);
+        DUE.is("cart 1 passes later", x.of(0, 1, 1), 1);
+        DUE.is("one passes", x.passes(0, -1), 1);
+        x.rate(0, 0, 24, 0);
+        x.set(0, 0, 0);
+        DUE.is("cart 0 waits", x.line(0, 0, 0), 1);
+        DUE.is("both wait", x.line(0, 0, 1), 2);
     }
 
     private static void tolls() {
