@@ -29,7 +29,7 @@ public final class ModelTest {
 
     public static void main(String[] args) {
         Due due = new Due("ModelTest");
-        int runs = args.length > 0 ? Integer.parseInt(args[0]) : 400;
+        int runs = args.length > 0 ? Integer.parseInt(args[0]) : 1000;
         int from = args.length > 1 ? Integer.parseInt(args[1]) : 0;
         for (int seed = from; seed < from + runs; seed++) {
             new ModelTest(due, seed).run();

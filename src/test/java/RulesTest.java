@@ -111,6 +111,8 @@ public final class RulesTest {
         stands("cost 1 not 2;", 7);
         stands("cost 1;lost 99999;", 12);
         stands("(".repeat(160), 0);
+        stands("7".repeat(160), 0);
+        stands("w".repeat(160), 0);
         stands("cost 1;lost 1" + "*1".repeat(73) + ";", FINE);
         stands("cost 1;lost 1" + "*1".repeat(73) + "*", 160);
         GateRoad x = new GateRoad();
