@@ -1,6 +1,7 @@
 /** Counts what is told wrong and ends the test with exit code 1 if anything was. */
 final class Due {
     private final String name;
+    private String sentence = "";
     private int told = 0;
     private int wrong = 0;
 
@@ -8,11 +9,26 @@ final class Due {
         this.name = name;
     }
 
+    /** What follows is held against these words of a promise; SentencesTest looks for them in the document. */
+    void promise(int n, String words) {
+        sentence = "promise " + n + ", \"" + words + "\": ";
+    }
+
+    /** What follows is held against these words of "Terms". */
+    void terms(String words) {
+        sentence = "Terms, \"" + words + "\": ";
+    }
+
+    /** What follows is held against these words of "What it is". */
+    void intro(String words) {
+        sentence = "What it is, \"" + words + "\": ";
+    }
+
     void is(String what, long got, long want) {
         told++;
         if (got != want) {
             wrong++;
-            System.out.println(name + ": " + what + " answered " + got + ", due is " + want);
+            System.out.println(name + ": " + sentence + what + " answered " + got + ", due is " + want);
         }
     }
 
